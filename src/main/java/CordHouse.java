@@ -570,17 +570,6 @@ public final class CordHouse {
             knots[c] = countAbove(tied, c * KNOTS, knots[c], height);
         }
 
-        /** Whether the KNOT behind KNOT k is of one CLUSTER with it. */
-        boolean goesOn(int c, int k) {
-            if (k + 1 >= knots[c]) {
-                return false;
-            }
-            int here = tied[c * KNOTS + k];
-            int behind = tied[c * KNOTS + k + 1];
-            return sortOf(here) == SIMPLE && sortOf(behind) == SIMPLE
-                && heightOf(behind) - heightOf(here) <= CLOSE;
-        }
-
         boolean becomeLike(Cords like) {
             boolean other = size != like.size;
             size = like.size;
@@ -663,15 +652,20 @@ public final class CordHouse {
             begun = 0;
         }
 
+        /** False: the KNOT behind KNOT k is of one CLUSTER with it. */
         boolean endsAt(Cords cords, int c, int k) {
-            if (cords.goesOn(c, k)) {
-                return false;
-            }
-            int packed = cords.tied[c * KNOTS + k];
-            int sort = sortOf(packed);
+            int from = c * KNOTS;
+            int here = cords.tied[from + k];
+            int sort = sortOf(here);
             simple = sort == SIMPLE;
-            place = (heightOf(cords.tied[c * KNOTS + begun]) + heightOf(packed)) / 2;
-            worth = simple ? k - begun + 1 : sort == LONG ? turnsOf(packed) : 1;
+            if (simple && k + 1 < cords.knots[c]) {
+                int behind = cords.tied[from + k + 1];
+                if (sortOf(behind) == SIMPLE && heightOf(behind) - heightOf(here) <= CLOSE) {
+                    return false;
+                }
+            }
+            place = (heightOf(cords.tied[from + begun]) + heightOf(here)) / 2;
+            worth = simple ? k - begun + 1 : sort == LONG ? turnsOf(here) : 1;
             begun = k + 1;
             return true;
         }
