@@ -4,10 +4,6 @@ import java.util.Random;
 
 /** Random runs of calls, the seeds fixed, on CordHouse and on PlainHouse: the answers are alike. */
 public final class AgainstPlainTest {
-    private static final String[] CALLS = {
-        "cord", "hang", "knot", "untie", "tear", "tie", "gap", "clear", "copy", "about", "knotAt", "levels",
-        "level", "number", "under", "sum", "part", "drop", "sumAt", "settle", "span", "cure", "cured", "found",
-        "grouping", "period", "likeness", "count"};
     private static final int[] PLACES = {60, 120, 180, 240, 300, 360};
 
     private final Random random;
@@ -16,94 +12,19 @@ public final class AgainstPlainTest {
     private final List<String> told = new ArrayList<>();
     private final long seed;
     private int wrong = 0;
-    private static final int[] asked = new int[CALLS.length];
-    private static final int[] good = new int[CALLS.length];
+    private static final int[] asked = new int[Calls.NAMES.length];
+    private static final int[] good = new int[Calls.NAMES.length];
 
     private AgainstPlainTest(long seed) {
         this.seed = seed;
         random = new Random(seed);
     }
 
-    private static int number(String call) {
-        for (int i = 0; i < CALLS.length; i++) {
-            if (CALLS[i].equals(call)) {
-                return i;
-            }
-        }
-        throw new IllegalArgumentException(call);
-    }
-
-    private static int onHouse(CordHouse x, String call, int[] a) {
-        switch (call) {
-            case "cord": return x.cord(a[0], a[1], a[2], a[3]);
-            case "hang": return x.hang(a[0], a[1], a[2], a[3]);
-            case "knot": return x.knot(a[0], a[1], a[2], a[3], a[4]);
-            case "untie": return x.untie(a[0], a[1], a[2]);
-            case "tear": return x.tear(a[0], a[1], a[2]);
-            case "tie": return x.tie(a[0], a[1], a[2]);
-            case "gap": return x.gap(a[0], a[1]);
-            case "clear": return x.clear(a[0]);
-            case "copy": return x.copy(a[0], a[1]);
-            case "about": return x.about(a[0], a[1], a[2]);
-            case "knotAt": return x.knotAt(a[0], a[1], a[2], a[3]);
-            case "levels": return x.levels(a[0]);
-            case "level": return x.level(a[0], a[1], a[2]);
-            case "number": return x.number(a[0], a[1]);
-            case "under": return x.under(a[0], a[1]);
-            case "sum": return x.sum(a[0], a[1]);
-            case "part": return x.part(a[0], a[1]);
-            case "drop": return x.drop(a[0]);
-            case "sumAt": return x.sumAt(a[0], a[1], a[2]);
-            case "settle": return x.settle(a[0]);
-            case "span": return x.span(a[0], a[1], a[2]);
-            case "cure": return x.cure(a[0]);
-            case "cured": return x.cured(a[0]);
-            case "found": return x.found(a[0]);
-            case "grouping": return x.grouping(a[0], a[1]);
-            case "period": return x.period(a[0], a[1]);
-            case "likeness": return x.likeness(a[0], a[1]);
-            default: return x.count(a[0], a[1]);
-        }
-    }
-
-    private static int onPlain(PlainHouse x, String call, int[] a) {
-        switch (call) {
-            case "cord": return x.cord(a[0], a[1], a[2], a[3]);
-            case "hang": return x.hang(a[0], a[1], a[2], a[3]);
-            case "knot": return x.knot(a[0], a[1], a[2], a[3], a[4]);
-            case "untie": return x.untie(a[0], a[1], a[2]);
-            case "tear": return x.tear(a[0], a[1], a[2]);
-            case "tie": return x.tie(a[0], a[1], a[2]);
-            case "gap": return x.gap(a[0], a[1]);
-            case "clear": return x.clear(a[0]);
-            case "copy": return x.copy(a[0], a[1]);
-            case "about": return x.about(a[0], a[1], a[2]);
-            case "knotAt": return x.knotAt(a[0], a[1], a[2], a[3]);
-            case "levels": return x.levels(a[0]);
-            case "level": return x.level(a[0], a[1], a[2]);
-            case "number": return x.number(a[0], a[1]);
-            case "under": return x.under(a[0], a[1]);
-            case "sum": return x.sum(a[0], a[1]);
-            case "part": return x.part(a[0], a[1]);
-            case "drop": return x.drop(a[0]);
-            case "sumAt": return x.sumAt(a[0], a[1], a[2]);
-            case "settle": return x.settle(a[0]);
-            case "span": return x.span(a[0], a[1], a[2]);
-            case "cure": return x.cure(a[0]);
-            case "cured": return x.cured(a[0]);
-            case "found": return x.found(a[0]);
-            case "grouping": return x.grouping(a[0], a[1]);
-            case "period": return x.period(a[0], a[1]);
-            case "likeness": return x.likeness(a[0], a[1]);
-            default: return x.count(a[0], a[1]);
-        }
-    }
-
     private int ask(String call, int... a) {
-        int want = onPlain(plain, call, a);
-        int got = onHouse(house, call, a);
-        asked[number(call)]++;
-        good[number(call)] += want >= 0 ? 1 : 0;
+        int want = Calls.onPlain(plain, call, a);
+        int got = Calls.onHouse(house, call, a);
+        asked[Calls.number(call)]++;
+        good[Calls.number(call)] += want >= 0 ? 1 : 0;
         StringBuilder text = new StringBuilder(call);
         for (int v : a) {
             text.append(' ').append(v);
@@ -324,9 +245,9 @@ public final class AgainstPlainTest {
             }
             wrong += run.wrong;
         }
-        for (int i = 0; i < CALLS.length; i++) {
+        for (int i = 0; i < Calls.NAMES.length; i++) {
             if (args.length > 0 || good[i] == 0) {
-                System.out.println(CALLS[i] + ": " + asked[i] + " calls, " + good[i] + " not refused");
+                System.out.println(Calls.NAMES[i] + ": " + asked[i] + " calls, " + good[i] + " not refused");
             }
             if (good[i] == 0) {
                 wrong++;
