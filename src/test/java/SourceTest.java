@@ -83,9 +83,24 @@ public final class SourceTest {
         Due.due("rule 1, fields that are not private", open, 3);
     }
 
+    /** Rule 11, and rule 12 as this class keeps it: rows are made by constructors, so no call makes an object. */
+    private static void methods(String code) {
+        Pattern method = Pattern.compile("(?m)^( +)(?:[\\w\\[\\]]+ )*(\\w+)\\([^;{}]*\\) \\{\n(?s:(.*?))\n\\1\\}");
+        Matcher m = method.matcher(code);
+        int n = 0;
+        while (m.find()) {
+            n++;
+            boolean isConstructor = m.group(2).equals("CordHouse");
+            Due.due("rule 11, lines of " + m.group(2), m.group(3).split("\n").length <= 60 ? 1 : 0, 1);
+            Due.due("makes an object: " + m.group(2), !isConstructor && m.group(3).contains("new ") ? 1 : 0, 0);
+        }
+        Due.due("methods are seen", n > FACE.length ? 1 : 0, 1);
+    }
+
     private static void words() throws IOException {
         String source = Files.readString(Path.of(SOURCE));
         String code = source.replaceAll("(?s)/\\*.*?\\*/", "").replaceAll("//[^\n]*", "");
+        methods(code);
         for (String word : FORBIDDEN) {
             Matcher m = Pattern.compile(word).matcher(code);
             Due.due("in the code: " + word, m.find() ? 1 : 0, 0);
